@@ -375,20 +375,22 @@ public final class Spicebourse {
 
     public int account(int lot, char kind) throws IndexOutOfBoundsException, IllegalArgumentException {
         Lot asked = lotAt(lot);
-        switch (kind) {
-            case 'b':
-                return asked.bought();
-            case 'c':
-                return asked.inClosed();
-            case 'o':
-                return inOpened(asked);
-            case 't':
-                return asked.thrown;
-            case 'p':
-                return asked.used;
-            default:
-                throw new IllegalArgumentException("there is no such account");
+        if (kind == 'b') {
+            return asked.bought();
         }
+        if (kind == 'c') {
+            return asked.inClosed();
+        }
+        if (kind == 'o') {
+            return inOpened(asked);
+        }
+        if (kind == 't') {
+            return asked.thrown;
+        }
+        if (kind != 'p') {
+            throw new IllegalArgumentException("there is no such account");
+        }
+        return asked.used;
     }
 
     public long checksum() {
@@ -720,7 +722,7 @@ public final class Spicebourse {
     private boolean areOffersSound() {
         for (int spice = 0; spice < SPICES; spice++) {
             if (offeredGrams(spice) >= SOUND_NEED
-                    && costOfWay(cheapestWay(spice, SOUND_NEED)) < boundBelow(spice, SOUND_NEED)) {
+                    && (double) costOfWay(cheapestWay(spice, SOUND_NEED)) < boundBelow(spice, SOUND_NEED)) {
                 return false;
             }
         }
@@ -977,7 +979,7 @@ public final class Spicebourse {
             }
             count = 0;
             found = 0;
-            cost = Integer.MAX_VALUE;
+            cost = 0;
         }
 
         void addUsable(Lot lot, int now) {
@@ -1048,7 +1050,7 @@ public final class Spicebourse {
             for (int i = 0; i < size && i < MIXED_LOTS; i++) {
                 sum += costs[tried[i]][triedParts[i]];
             }
-            if (sum < cost && isInBands(size)) {
+            if ((found < 1 || sum < cost) && isInBands(size)) {
                 keep(size, sum);
             }
         }

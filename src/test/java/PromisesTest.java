@@ -1,10 +1,10 @@
 /** Each promise by itself: ordinary inputs, the edges that the document names, and wrong inputs. */
 public final class PromisesTest {
-    private static final String INDEX = " ! IndexOutOfBoundsException; ";
-    private static final String ARGUMENT = " ! IllegalArgumentException; ";
-    private static final String STATE = " ! IllegalStateException; ";
-    private static final String UNABLE = " ! UnsupportedOperationException; ";
-    private static final String NONE = " ! NoSuchElementException; ";
+    private static final String INDEX = Runs.INDEX;
+    private static final String ARGUMENT = Runs.ARGUMENT;
+    private static final String STATE = Runs.STATE;
+    private static final String UNABLE = Runs.UNABLE;
+    private static final String NONE = Runs.NONE;
     /** Two lots of the spice 0 with an opened jar each, as in the document's example. */
     private static final String TWO = "addLot(0, 80, 60, 70, 50, 20, 2) = 0; pass(2) = 2; "
             + "addLot(0, 70, 90, 60, 40, 30, 3) = 1; openJar(0, false) = 0; openJar(1, true) = 1; ";
@@ -42,13 +42,8 @@ public final class PromisesTest {
         Runs.end();
     }
 
-    /** The same row again and again, with its number in place of #. */
     private static String times(int from, int to, String row) {
-        StringBuilder all = new StringBuilder();
-        for (int i = from; i <= to; i++) {
-            all.append(row.replace("#", "" + i));
-        }
-        return all.toString();
+        return Runs.times(from, to, row);
     }
 
     private static void example() {

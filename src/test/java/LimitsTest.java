@@ -258,6 +258,9 @@ public final class LimitsTest {
                 "got(0) = 0; got(5) = 0; owes(0) = 0; owes(5) = 0; isSound() = true;");
         Runs.play("a blend without lots", "addBlend() = 0; mixtureCost(0)" + NONE, "mixturePart(0, 0)" + INDEX,
                 "narrow(0) = false; addLot(0, 1, 1, 1, 10, 1, 1) = 0; mixtureCost(0) = 10;");
+        Runs.play("one batch of one gram", "addLot(0, 1, 0, 1, 10, 1, 1) = 0; openJar(0, false) = 0; shippedShare()"
+                + NONE,
+                "fromJar(0, 1) = 1; mix() = 0; shippedShare() = 0.0; throwBatch(0) = 1; shippedShare() = 0.0;");
         Runs.play("one lot, one batch", "addLot(0, 1, 0, 1, 10, 1, 1) = 0; meanOil() = 0.0; openJar(0, false) = 0; ",
                 "fromJar(0, 10) = 10; shippedShare()" + NONE, "mix() = 0; shippedShare() = 0.0; addBlend() = 0; ",
                 "test(0, 0) = true; ship(0, 0, 0, 1) = 0; shippedShare() = " + (double) (1f / 10f)

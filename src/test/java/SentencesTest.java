@@ -99,8 +99,8 @@ public final class SentencesTest {
         Runs.play("a jar fades to 0 and no less", "addLot(0, 5, 9, 4, 50, 20, 2) = 0; openJar(0, false) = 0; ",
                 jar(0, 5, 9, 4), "pass(1) = 1; " + jar(0, 4, 8, 3), "pass(1) = 2; " + jar(0, 3, 6, 2),
                 "pass(1) = 3; " + jar(0, 2, 5, 0), "pass(1) = 4; " + jar(0, 0, 3, 0), "pass(1) = 5; " + jar(0, 0, 2, 0),
-                "pass(1) = 6; " + jar(0, 0, 0, 0), "pass(1) = 7; " + jar(0, 0, 0, 0), "pass(1) = 8; " + jar(0, 0, 0,
-                0));
+                "pass(1) = 6; " + jar(0, 0, 0, 0), "pass(1) = 7; " + jar(0, 0, 0, 0),
+                "pass(1) = 8; " + jar(0, 0, 0, 0));
         Runs.play("a jar that was opened later", "pass(3) = 3; addLot(0, 80, 60, 70, 50, 20, 2) = 0; pass(6) = 9; ",
                 "openJar(0, false) = 0; " + jar(0, 79, 57, 68) + "pass(1) = 10; " + jar(0, 78, 56, 67),
                 "pass(1) = 11; " + jar(0, 76, 54, 66) + lot(0, 78, 56, 68) + "openJar(0, false) = 1; ",
@@ -206,9 +206,8 @@ public final class SentencesTest {
                 "mix() = 2; " + batch(2, 2, 97, 21));
         Runs.play("six portions", jars, "fromJar(0, 1) = 1; fromJar(1, 2) = 3; fromJar(2, 3) = 6; fromJar(0, 4) = 10; ",
                 "fromJar(1, 5) = 15; fromJar(2, 6) = 21; mix() = 0; " + batch(0, 2, 97, 42));
-        Runs.play("a batch of a cut number", jars, "fromJar(0, 1) = 1; fromJar(1, 9) = 10; mix() = 0; " + batch(0, 1,
-                97, 0),
-                "fromBatch(0, 9) = 9; fromJar(1, 1) = 10; mix() = 1; " + batch(1, 1, 97, 0));
+        Runs.play("a batch of a cut number", jars, "fromJar(0, 1) = 1; fromJar(1, 9) = 10; mix() = 0; ",
+                batch(0, 1, 97, 0) + "fromBatch(0, 9) = 9; fromJar(1, 1) = 10; mix() = 1; " + batch(1, 1, 97, 0));
     }
 
     /** "If one of its portions is of a jar of that lot, or of a batch that has it." */
@@ -230,17 +229,17 @@ public final class SentencesTest {
 
     /** "'mild' the heat to 0 to 30, 'hot' to 60 to 99, 'fresh' the oil to 50 to 99, 'red' the colour to 60 to 99." */
     private static void endsOfBands() {
-        bandOf("mild", 0, 30, 0, 30);
-        bandOf("hot", 0, 99, 60, 99);
-        bandOf("fresh", 1, 99, 50, 99);
-        bandOf("red", 2, 99, 60, 99);
-        bandOf("nothing", 0, 99, 0, 99);
-        bandOf("nothing", 1, 99, 0, 99);
-        bandOf("nothing", 2, 99, 0, 99);
+        bandOf("mild", 0, 0, 30);
+        bandOf("hot", 0, 60, 99);
+        bandOf("fresh", 1, 50, 99);
+        bandOf("red", 2, 60, 99);
+        bandOf("nothing", 0, 0, 99);
+        bandOf("nothing", 1, 0, 99);
+        bandOf("nothing", 2, 0, 99);
     }
 
     /** Batches with each number from 0 to 99 at the edges, and with numbers for the other bands that are in them. */
-    private static void bandOf(String word, int what, int most, int low, int high) {
+    private static void bandOf(String word, int what, int low, int high) {
         int[] tried = {0, 1, low - 1, low, low + 1, high - 1, high, high + 1, 98, 99};
         for (int number : tried) {
             if (number < 0 || number > 99) {
@@ -252,7 +251,7 @@ public final class SentencesTest {
             Runs.play("the band of " + word + " and " + number, lot, "openJar(0, false) = 0; fromJar(0, 50) = 50; ",
                     "mix() = 0; addBlend() = 0; ", word.equals("nothing") ? "" : "typing " + word + "; "
                     + "narrow(0) = true; ",
-                    "band(0, " + what + ", false) = " + low + "; band(0, " + what + ", true) = " + most + "; ",
+                    "band(0, " + what + ", false) = " + low + "; band(0, " + what + ", true) = " + high + "; ",
                     "isIn(0, 0) = " + isIn + "; test(0, 0) = " + isIn + "; ",
                     isIn ? "ship(0, 0, 0, 50) = 100;" : "ship(0, 0, 0, 50)" + UNABLE);
         }
@@ -263,24 +262,21 @@ public final class SentencesTest {
         String bands = "band(0, 0, false) = %d; band(0, 0, true) = %d; band(0, 1, false) = %d; band(0, 1, true) = 99; "
                 + "band(0, 2, false) = %d; band(0, 2, true) = 99; band(1, 0, true) = 99; band(1, 0, false) = 0; ";
         String blends = "addBlend() = 0; addBlend() = 1; ";
-        Runs.play("each word", blends, String.format(bands, 0, 99, 0, 0), "typing mild; narrow(0) = true; ",
-                String.format(bands, 0, 30, 0, 0), "typing fresh; narrow(0) = true; ", String.format(bands, 0, 30, 50,
-                0),
-                "typing red; narrow(0) = true; ", String.format(bands, 0, 30, 50, 60), "typing hot; "
-                + "narrow(0) = false; ",
-                String.format(bands, 0, 30, 50, 60), "typing mild; narrow(0) = true; typing fresh; narrow(0) = true; ",
-                "typing red; narrow(0) = true; ", String.format(bands, 0, 30, 50, 60));
-        Runs.play("hot first", blends, "typing hot; narrow(0) = true; ", String.format(bands, 60, 99, 0, 0),
-                "typing mild; narrow(0) = false; ", String.format(bands, 60, 99, 0, 0), "typing hot; "
-                + "narrow(0) = true; ",
-                String.format(bands, 60, 99, 0, 0), "isSound() = true;");
-        String none = "";
-        for (String word : new String[] {"mil", "milda", "amild", "mi", "ho", "hott", "hothot", "shot", "fres",
-                "freshs",
-            "redd", "re", "ered", "dim", "h", "x", "mildhot", "hotred"}) {
-            none += "typing " + word + "; narrow(0) = false; ";
+        String wide = String.format(bands, 0, 99, 0, 0);
+        String hot = String.format(bands, 60, 99, 0, 0);
+        String all = String.format(bands, 0, 30, 50, 60);
+        Runs.play("each word", blends, wide, "typing mild; narrow(0) = true; ", String.format(bands, 0, 30, 0, 0),
+                "typing fresh; narrow(0) = true; ", String.format(bands, 0, 30, 50, 0),
+                "typing red; narrow(0) = true; ", all, "typing hot; narrow(0) = false; ", all,
+                "typing mild; narrow(0) = true; typing fresh; narrow(0) = true; typing red; narrow(0) = true; ", all);
+        Runs.play("hot first", blends, "typing hot; narrow(0) = true; ", hot, "typing mild; narrow(0) = false; ", hot,
+                "typing hot; narrow(0) = true; ", hot, "isSound() = true;");
+        StringBuilder none = new StringBuilder("narrow(0) = false; ");
+        for (String word : ("mil milda amild mi ho hott hothot shot fres freshs redd re ered dim h x mildhot hotred "
+                + "tohs").split(" ")) {
+            none.append("typing ").append(word).append("; narrow(0) = false; ");
         }
-        Runs.play("what is none of the words", blends, "narrow(0) = false; ", none, String.format(bands, 0, 99, 0, 0));
+        Runs.play("what is none of the words", blends, none.toString(), wide);
         Runs.play("the word is gone", blends, "typing re; narrow(0) = false; type('d') = 1; narrow(0) = false; ",
                 "typing red; narrow(0) = true; type('x') = 1; narrow(0) = false; narrow(0) = false; typing hot; ",
                 "narrow(0) = true; typing mild; narrow(0) = false; type('h') = 1; typing ot; narrow(0) = true; ",
@@ -311,9 +307,9 @@ public final class SentencesTest {
         Runs.play("a word that is typed and not used", house, "typing hot; ", still);
         Runs.play("other weeks, a hold, and a test again", house, "pass(20) = 20; hold(0, true) = false; ",
                 "hold(0, false) = true; ", still, "test(0, 0) = true; ", still);
-        Runs.play("a batch that came behind the test", house, "fromBatch(0, 1) = 1; mix() = 1; ship(1, 0, 0, 1)"
-                + UNABLE,
-                "ship(0, 0, 0, 1) = 2; test(1, 0) = true; ship(1, 1, 0, 1)" + UNABLE, "ship(1, 0, 0, 1) = 2;");
+        Runs.play("a batch that came behind the test", house, "fromBatch(0, 1) = 1; mix() = 1; ",
+                "ship(1, 0, 0, 1)" + UNABLE, "ship(0, 0, 0, 1) = 2; test(1, 0) = true; ship(1, 1, 0, 1)" + UNABLE,
+                "ship(1, 0, 0, 1) = 2;");
         Runs.play("one blend is tested, another is narrowed", house, "typing mild; narrow(1) = true; ",
                 "ship(0, 0, 0, 1) = 2; ship(0, 1, 0, 1)" + UNABLE, "test(0, 1) = false; ship(0, 1, 0, 1)" + UNABLE);
     }
@@ -375,9 +371,8 @@ public final class SentencesTest {
     }
 
     private static String way(int need, int cost, int first, int second, int third) {
-        return "cheapest(0, #) = %; jarsOf(0, #, 0) = A; jarsOf(0, #, 1) = B; jarsOf(0, #, 2) = C; ".replace("#", ""
-                + need)
-                .replace("%", "" + cost).replace("A", "" + first).replace("B", "" + second).replace("C", "" + third);
+        return String.format("cheapest(0, %1$d) = %2$d; jarsOf(0, %1$d, 0) = %3$d; jarsOf(0, %1$d, 1) = %4$d; "
+                + "jarsOf(0, %1$d, 2) = %5$d; ", need, cost, first, second, third);
     }
 
     /** "The sum, offer by offer, of all grams of it that are taken times its price, .. divided by the grams." */
@@ -411,7 +406,7 @@ public final class SentencesTest {
                 + "addOffer(0, 100, 20, 1) = 1; bound(0, 100) = 20.0; bound(0, 105) = 21.5; bound(0, 10) = 2.0;");
     }
 
-    /** "Its cost is the sum of parts times the price of the lot, times 10, divided by the grams .., cut for each lot." */
+    /** "The sum of parts times the price of the lot, times 10, divided by the grams of its jars, cut for each lot." */
     private static void partsOfMixtures() {
         String red = "typing red; narrow(0) = true; ";
         Runs.play("one lot, cut and no rest", "addLot(0, 9, 9, 9, 30, 7, 1) = 0; addBlend() = 0; mixtureCost(0) = 23; ",
@@ -468,9 +463,8 @@ public final class SentencesTest {
                 + "narrow(0) = true; ",
                 "addBlend() = 1; typing fresh; narrow(1) = true; addBlend() = 2; typing red; narrow(2) = true; ",
                 "pass(1) = 1; mixtureCost(0) = 100; mixtureCost(1) = 100; mixtureCost(2) = 100; pass(1) = 2; ",
-                "mixtureCost(0) = 100; mixtureCost(1)" + NONE, "mixtureCost(2) = 100; pass(1) = 3; mixtureCost(2)"
-                + NONE,
-                "mixtureCost(0) = 100; pass(1) = 4; mixtureCost(0)" + NONE);
+                "mixtureCost(0) = 100; mixtureCost(1)" + NONE, "mixtureCost(2) = 100; pass(1) = 3; ",
+                "mixtureCost(2)" + NONE, "mixtureCost(0) = 100; pass(1) = 4; mixtureCost(0)" + NONE);
         Runs.play("hold and closed jars", "addLot(0, 9, 9, 9, 50, 5, 1) = 0; addLot(0, 9, 9, 9, 50, 50, 2) = 1; ",
                 "addBlend() = 0; mixtureCost(0) = 10; hold(0, true) = false; mixtureCost(0) = 100; ",
                 "hold(1, true) = false; mixtureCost(0)" + NONE, "hold(0, false) = true; mixtureCost(0) = 10; ",
@@ -496,7 +490,7 @@ public final class SentencesTest {
                 "addBlend() = 0; mixtureCost(0) = 98; mixturePart(0, 0) = 4; mixturePart(0, 1) = 6;");
     }
 
-    /** "If one of its numbers as it came is below, or above, those of all other lots .., there being 2 others or more." */
+    /** "If one of its numbers as it came is below, or above, those of all other lots, there being 2 others or more." */
     private static void odd() {
         int[][] apart = {{4, 5, 5}, {6, 5, 5}, {5, 4, 5}, {5, 6, 5}, {5, 5, 4}, {5, 5, 6}};
         for (int[] came : apart) {
@@ -526,9 +520,8 @@ public final class SentencesTest {
         for (int all = 1; all <= 20; all++) {
             rows.append("chance(-1, ").append(all).append(")").append(ARGUMENT);
             for (int right = 0; right <= all; right++) {
-                rows.append("chance(").append(right).append(", ").append(all).append(") = ").append(millionths(right,
-                all));
-                rows.append("; ");
+                rows.append("chance(").append(right).append(", ").append(all).append(") = ");
+                rows.append(millionths(right, all)).append("; ");
             }
             rows.append("chance(").append(all + 1).append(", ").append(all).append(")").append(ARGUMENT);
         }
@@ -599,6 +592,10 @@ public final class SentencesTest {
                 "got(0) = 2; owes(0) = 4; throwBatch(0) = 24; throwBatch(1) = 39; recall(0) = 6; "
                 + "hold(0, true) = false; ",
                 "recall(0) = 6; gotOf(5, 0) = true; got(5) = 2; isSound() = true;");
+        Runs.play("one batch behind another", house, "fromJar(1, 25) = 25; mix() = 2; test(2, 0) = true; ",
+                "ship(2, 0, 3, 1) = 2; gotOf(3, 0) = false; gotOf(3, 1) = true; ship(0, 0, 3, 1) = 2; ",
+                "gotOf(3, 0) = true; gotOf(3, 1) = true; recall(0) = 1; recall(1) = 1; ship(0, 0, 2, 1) = 2; ",
+                "recall(0) = 2; recall(1) = 1; got(3) = 2; owes(3) = 4;");
         Runs.play("a refused shipment is not got", house, "ship(0, 0, 0, 26)" + UNABLE, "recall(0) = 0; "
                 + "gotOf(0, 0) = false; ",
                 "got(0) = 0; owes(0) = 0;");
@@ -608,15 +605,13 @@ public final class SentencesTest {
     private static void accounts() {
         String house = "addLot(0, 9, 9, 9, 50, 100, 3) = 0; addLot(0, 9, 9, 9, 40, 100, 1) = 1; ";
         Runs.play("accounts", house, account(0, 150, 150, 0, 0, 0), account(1, 40, 40, 0, 0, 0),
-                "openJar(0, false) = 0; ",
-                account(0, 150, 100, 50, 0, 0), "fromJar(0, 20) = 20; ", account(0, 150, 100, 30, 0, 20),
-                "throwJar(0) = 30; ",
-                account(0, 150, 100, 0, 30, 20), "openJar(0, false) = 1; openJar(1, false) = 2; "
-                + "openJar(0, false) = 3; ",
-                account(0, 150, 0, 100, 30, 20), account(1, 40, 0, 40, 0, 0), "fromJar(3, 50) = 70; empty() = 70; ",
-                account(0, 150, 0, 50, 30, 70), "pass(8) = 8; ", account(0, 150, 0, 0, 80, 70), account(1, 40, 0, 0,
-                40, 0),
-                "isSound() = true;");
+                "openJar(0, false) = 0; ", account(0, 150, 100, 50, 0, 0),
+                "fromJar(0, 20) = 20; ", account(0, 150, 100, 30, 0, 20),
+                "throwJar(0) = 30; ", account(0, 150, 100, 0, 30, 20),
+                "openJar(0, false) = 1; openJar(1, false) = 2; openJar(0, false) = 3; ",
+                account(0, 150, 0, 100, 30, 20), account(1, 40, 0, 40, 0, 0),
+                "fromJar(3, 50) = 70; empty() = 70; ", account(0, 150, 0, 50, 30, 70),
+                "pass(8) = 8; ", account(0, 150, 0, 0, 80, 70), account(1, 40, 0, 0, 40, 0), "isSound() = true;");
         Runs.play("what becomes of batches", house, "openJar(0, false) = 0; fromJar(0, 20) = 20; mix() = 0; ",
                 "fromBatch(0, 10) = 10; ", account(0, 150, 100, 30, 0, 20), "throwBatch(0) = 10; empty() = 10; ",
                 account(0, 150, 100, 30, 0, 20), "hold(0, true) = false; ", account(0, 150, 100, 30, 0, 20));

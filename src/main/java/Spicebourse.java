@@ -637,7 +637,7 @@ public final class Spicebourse {
             }
             Offer offer = offers.get(next);
             int grams = Math.min(rest, offer.allGrams());
-            sum += (double) (grams * offer.price) / (double) offer.grams;
+            sum += offer.costOf(grams);
             rest -= grams;
             taken |= 1 << next;
         }
@@ -951,6 +951,11 @@ public final class Spicebourse {
 
         int allGrams() {
             return grams * jars;
+        }
+
+        /** What grams of it would cost if jars could be split. */
+        double costOf(int taken) {
+            return grams < 1 ? 0.0 : (double) (taken * price) / (double) grams;
         }
     }
 

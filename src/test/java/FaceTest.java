@@ -19,6 +19,7 @@ public final class FaceTest {
     public static void main(String[] args) throws Exception {
         checkFace();
         checkNames();
+        checkSizes();
         checkWords();
         Runs.end();
     }
@@ -89,6 +90,33 @@ public final class FaceTest {
             boolean isFree = Modifier.isPublic(method.getModifiers()) || !names.contains(method.getName());
             Runs.due("free is the name " + method.getName(), isFree, true);
         }
+    }
+
+    /** Rules 5, 11 and 12: what is static is constant, and classes, fields and parameters are few. */
+    private static void checkSizes() {
+        List<Class<?>> classes = new ArrayList<>(List.of(Spicebourse.class.getDeclaredClasses()));
+        classes.add(Spicebourse.class);
+        Runs.due("some twelve classes at most", classes.size() <= 12, true);
+        for (Class<?> one : classes) {
+            int kept = 0;
+            for (Field field : one.getDeclaredFields()) {
+                boolean isStatic = Modifier.isStatic(field.getModifiers());
+                kept += isStatic ? 0 : 1;
+                Runs.due("constant if static is " + field, !isStatic || isConstant(field), true);
+            }
+            Runs.due("some twenty fields at most in " + one, kept <= 20, true);
+            for (Method method : one.getDeclaredMethods()) {
+                Runs.due("seven parameters at most in " + method, method.getParameterCount() <= 7, true);
+            }
+            for (Constructor<?> made : one.getDeclaredConstructors()) {
+                Runs.due("seven parameters at most in " + made, made.getParameterCount() <= 7, true);
+            }
+        }
+    }
+
+    private static boolean isConstant(Field field) {
+        boolean isNumber = field.getType() == int.class || field.getType() == long.class;
+        return isNumber && Modifier.isFinal(field.getModifiers());
     }
 
     private static void checkWords() throws Exception {
